@@ -32,7 +32,7 @@ public final class CoconutShies {
     private long seedNow = 0;
 
     public CoconutShies() {
-        stand.makeAnew(booth);
+        // No husks, nobody: so the fields are made.
     }
 
     // ---- the fair
@@ -232,7 +232,7 @@ public final class CoconutShies {
     }
 
     public int judge(int n, int row) {
-        if (n < 1 || n > MOST_DOINGS || row < 0 || row >= HUNDREDS[n]) {
+        if (n < 1 || n > MOST_DOINGS || row < 0 || row >= hundreds(n)) {
             return BAD;
         }
         return seeker.firstThatCanNotBe(booth, stand, n, row);
@@ -247,10 +247,12 @@ public final class CoconutShies {
             if (bit(others, thrower) == 0) {
                 int more = seeker.matchAmong(booth, stand, others | 1 << thrower)
                         - seeker.matchAmong(booth, stand, others);
-                sum += more * ordersBehind(Integer.bitCount(others), booth.throwers);
+                // The others come ahead of it in any order, and the rest behind it in any order.
+                int ahead = Integer.bitCount(others);
+                sum += more * ordersOf(ahead) * ordersOf(booth.throwers - ahead - 1);
             }
         }
-        return inLeastTerms(sum, ORDERS[booth.throwers], upper);
+        return inLeastTerms(sum, ordersOf(booth.throwers), upper);
     }
 
     // ---- holds
@@ -363,13 +365,13 @@ public final class CoconutShies {
         return stands;
     }
 
-    /** In how many orders of all of them one comes just behind these others, in whatever order. */
-    private static int ordersBehind(int others, int all) {
-        int behind = all - others - 1;
-        if (others < 0 || behind < 0 || others >= ORDERS.length || behind >= ORDERS.length) {
-            return 0;
-        }
-        return ORDERS[others] * ORDERS[behind];
+    private static int ordersOf(int many) {
+        return many >= 0 && many < ORDERS.length ? ORDERS[many] : 1;
+    }
+
+    /** 100 to that power: a row tells each throw, or doing, by two figures. */
+    private static int hundreds(int power) {
+        return power >= 0 && power < HUNDREDS.length ? HUNDREDS[power] : 1;
     }
 
     private static int inLeastTerms(int top, int bottom, boolean upper) {
@@ -833,10 +835,10 @@ public final class CoconutShies {
         /** The least row of just so many throws behind which the husk is down; NONE. */
         int firstRow(Booth booth, Stand now, int husk, int many) {
             tries[0].becomeAs(now);
-            return rowFrom(booth, husk, 0, many);
+            return rowFrom(tries, booth, husk, 0, many);
         }
 
-        private int rowFrom(Booth booth, int husk, int depth, int many) {
+        private static int rowFrom(Stand[] tries, Booth booth, int husk, int depth, int many) {
             Stand now = tries[depth];
             if (depth >= many || depth >= MOST_ROW) {
                 return now.isUp(husk) ? NONE : 0;
@@ -848,9 +850,9 @@ public final class CoconutShies {
                     }
                     tries[depth + 1].becomeAs(now);
                     tries[depth + 1].strike(booth, thrower, at);
-                    int rest = rowFrom(booth, husk, depth + 1, many);
+                    int rest = rowFrom(tries, booth, husk, depth + 1, many);
                     if (rest != NONE) {
-                        return (10 * (thrower + 1) + at + 1) * HUNDREDS[many - depth - 1] + rest;
+                        return (10 * (thrower + 1) + at + 1) * hundreds(many - depth - 1) + rest;
                     }
                 }
             }
@@ -862,23 +864,19 @@ public final class CoconutShies {
             mostDown = NONE;
             firstFigures = 1;
             tries[0].becomeAs(now);
-            matchFrom(booth, among, 0, 1);
+            matchFrom(this, booth, among, 0, 1);
             return mostDown;
         }
 
-        private void matchFrom(Booth booth, int among, int thrower, int figures) {
-            Stand now = tries[thrower];
+        private static void matchFrom(Seeker seeker, Booth booth, int among, int thrower, int figures) {
+            Stand now = seeker.tries[thrower];
             if (thrower >= booth.throwers || thrower >= MOST_THROWERS) {
-                // Rows come by their number, so of like ones the first is the least.
-                if (now.howManyDown() > mostDown) {
-                    mostDown = now.howManyDown();
-                    firstFigures = figures;
-                }
+                seeker.weigh(now.howManyDown(), figures);
                 return;
             }
-            Stand then = tries[thrower + 1];
+            Stand then = seeker.tries[thrower + 1];
             then.becomeAs(now);
-            matchFrom(booth, among, thrower + 1, 10 * figures);
+            matchFrom(seeker, booth, among, thrower + 1, 10 * figures);
             if (bit(among, thrower) == 0) {
                 return;
             }
@@ -886,8 +884,16 @@ public final class CoconutShies {
                 if (now.canBeThrownAt(booth, thrower, husk)) {
                     then.becomeAs(now);
                     then.strike(booth, thrower, husk);
-                    matchFrom(booth, among, thrower + 1, 10 * figures + husk + 1);
+                    matchFrom(seeker, booth, among, thrower + 1, 10 * figures + husk + 1);
                 }
+            }
+        }
+
+        private void weigh(int howManyDown, int figures) {
+            // Rows come by their number, so of like ones the first is the least.
+            if (howManyDown > mostDown) {
+                mostDown = howManyDown;
+                firstFigures = figures;
             }
         }
 
@@ -924,7 +930,7 @@ public final class CoconutShies {
         int firstThatCanNotBe(Booth booth, Stand now, int n, int doings) {
             tries[0].becomeAs(now);
             for (int i = 0; i < n; i++) {
-                int doing = doings / HUNDREDS[n - 1 - i] % 100;
+                int doing = doings / hundreds(n - 1 - i) % 100;
                 if (!couldBeDone(booth, tries[0], doing / 10, doing % 10)) {
                     return i;
                 }
@@ -969,7 +975,7 @@ public final class CoconutShies {
         /** Of all ways of so many throws, by how many the husk is down behind them. */
         int waysDown(Booth booth, Stand now, int husk, int many) {
             tries[0].becomeAs(now);
-            return waysFrom(booth, husk, 0, many);
+            return waysFrom(this, booth, husk, 0, many);
         }
 
         static int allWays(int many) {
@@ -980,17 +986,18 @@ public final class CoconutShies {
             return all;
         }
 
-        private int waysFrom(Booth booth, int husk, int depth, int many) {
-            Stand now = tries[depth];
+        private static int waysFrom(Chances by, Booth booth, int husk, int depth, int many) {
+            Stand now = by.tries[depth];
             if (depth >= many || depth >= MOST_ODDS) {
                 return now.isUp(husk) ? 0 : 1;
             }
             int ways = 0;
             for (int luck = STRAIGHT; luck <= UNDER; luck++) {
-                tries[depth + 1].becomeAs(now);
-                tries[depth + 1].throwBy(booth, thrower, place, luck);
-                int waysOfLuck = luck == STRAIGHT ? 2 * tenths : 10 - tenths;
-                ways += waysOfLuck * waysFrom(booth, husk, depth + 1, many);
+                Stand then = by.tries[depth + 1];
+                then.becomeAs(now);
+                then.throwBy(booth, by.thrower, by.place, luck);
+                int waysOfLuck = luck == STRAIGHT ? 2 * by.tenths : 10 - by.tenths;
+                ways += waysOfLuck * waysFrom(by, booth, husk, depth + 1, many);
             }
             return ways;
         }

@@ -5,6 +5,7 @@ public final class ChancesTest {
 
     public static void main(String[] args) {
         promise26Rests();
+        promise26NoRest();
         promise26RestsRefused();
         promise27Odds();
         promise27OddsByLaw();
@@ -38,8 +39,23 @@ public final class ChancesTest {
         rests("S10H010T090T090", 2, 1);
         // Only the other one's throw fells it; the one never throws.
         rests("S10H030T010T090T090", 1, 1);
+        // Of three husks the last is worth most to the one, 3, the first to the other one, 5.
+        rests("S10H010H110H210T090T090", 1, 31);
         // It takes both, 2 less 1 to the one (husk 1), 4 less 1 to the other one.
         rests("S10H091H190T050T050", 2, 0);
+    }
+
+    /**
+     * With husk 2 down and husk 3 loose: the one fells 4 and 0, so the other fells 1 (which sets 4
+     * up), so the one fells 3 instead, so the other fells 0, so the one fells 4 and 0.
+     */
+    private static void promise26NoRest() {
+        CoconutShies x = Checks.fairOf("S19H040H150H220H370H480T090T050L141L420L400");
+        due("26 ahead of that there is one", x.rests(1) >= 0 ? 1 : 0, 1);
+        x.toss(0, 2, 0);
+        x.toss(1, 3, 0);
+        due("26 no rest", x.rests(0), 0);
+        due("26 no first one", x.rests(1), NONE);
     }
 
     private static void promise26RestsRefused() {
@@ -78,6 +94,9 @@ public final class ChancesTest {
         odds(y, 1, 4, 0, 7, 81, 160000);
         CoconutShies z = Checks.fairOf("S20H210T011");
         odds(z, 2, 1, 0, 3, 1, 1);
+        CoconutShies two = Checks.fairOf("S10H210T010T210");
+        due("27 of the second thrower", two.odds(1, 0, 1, 0, 6, true), 1);
+        due("27 of the second thrower", two.odds(1, 0, 1, 0, 6, false), 5);
     }
 
     private static void promise27OddsByLaw() {
@@ -159,19 +178,13 @@ public final class ChancesTest {
         }
         // Throws of one call come one behind the other: what fell stays down.
         CoconutShies x = Checks.fairOf("S19H010H110H210H310H410T091T091T091T091");
-        int last = 0;
+        int[] down = new int[31];
         for (int m = 1; m <= 30; m++) {
-            x.seed(12345);
-            int now = x.fairs(m);
-            due("29 as many are down or more, " + m, now - last >= (m == 1 ? 0 : lastOne(x, m - 1)) ? 1 : 0, 1);
-            last = now;
+            down[m] = together(x, m) - (m == 1 ? 0 : together(x, m - 1));
+            due("29 as many are down as ahead of it, or one more, " + m,
+                    down[m] == down[m - 1] || down[m] == down[m - 1] + 1 ? 1 : 0, 1);
         }
-        due("29 all five are down in the end", last - together(x, 29), 5);
-    }
-
-    /** How many are down behind the last of m throws. */
-    private static int lastOne(CoconutShies x, int m) {
-        return together(x, m) - (m == 1 ? 0 : together(x, m - 1));
+        due("29 all five are down in the end", down[30], 5);
     }
 
     private static int together(CoconutShies x, int m) {

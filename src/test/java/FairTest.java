@@ -118,6 +118,8 @@ public final class FairTest {
         fault("S10T4", 4);
         fault("S10T3", 5);
         fault("S10T00", 5);
+        fault("S10T0:", 5);
+        fault("S10T/", 4);
         fault("S10T01", 6);
         fault("S10T014", 6);
         fault("S10T010", NONE);

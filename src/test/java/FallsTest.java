@@ -159,6 +159,7 @@ public final class FallsTest {
         due("20 by none", Checks.fairOf("S19H030T090").nails(0), NONE);
         due("20 one of 13", Checks.fairOf("S19H090T090").nails(0), 1);
         due("20 firm enough", Checks.fairOf("S19H090T080").nails(0), 0);
+        due("20 only the second thrower fells it", Checks.fairOf("S19H030T010T040").nails(0), 1);
         due("20 nobody", Checks.fairOf("S19H010").nails(0), 0);
         due("20 out of reach", Checks.fairOf("S29H010T090").nails(0), 0);
         due("20 a split one", Checks.fairOf("S19H013T090").nails(0), 0);
