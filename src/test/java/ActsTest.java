@@ -182,10 +182,13 @@ public final class ActsTest {
     }
 
     private static void promise15Undo() {
+        // A twin is asked on the way, as no object is promised to answer more than 512 calls.
         CoconutShies x = Checks.fairOf("S13H013H190H291T090L010L021");
+        CoconutShies twin = Checks.fairOf("S13H013H190H291T090L010L021");
         String[] before = new String[8];
         for (int i = 0; i < 8; i++) {
-            before[i] = Checks.stateOf(x);
+            before[i] = Checks.stateOf(twin);
+            act(twin, i);
             act(x, i);
         }
         for (int i = 7; i >= 0; i--) {

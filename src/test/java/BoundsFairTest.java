@@ -520,6 +520,34 @@ public final class BoundsFairTest {
         due("about(2)", x.about(2), 0);
     }
 
+    @Says("THE TEXT is THE FAIR")
+    private static void promise5EarlierFairsLeaveNoTrace() {
+        CoconutShies x = new CoconutShies();
+        for (String text : new String[] {MOST_PARTS, "S00", "S10H610T010", "S21H353H590T010T120L010"}) {
+            Checks.tell(x, text);
+            x.fair();
+            askedAlike(x, Checks.fairOf(text));
+            x.toss(0, 3, 0);
+            x.nail(1);
+            x.keep(1);
+        }
+    }
+
+    private static void askedAlike(CoconutShies x, CoconutShies fresh) {
+        for (int i = -1; i <= 5; i++) {
+            due("fewest(" + i + ", true)", x.fewest(i, true), fresh.fewest(i, true));
+            due("nails(" + i + ")", x.nails(i), fresh.nails(i));
+            due("share(" + i + ", false)", x.share(i, false), fresh.share(i, false));
+            due("winds(" + i + ", 0)", x.winds(i, 0), fresh.winds(i, 0));
+            due("felled(" + i + ", 5, 0)", x.felled(i, 5, 0), fresh.felled(i, 5, 0));
+        }
+        due("match(true)", x.match(true), fresh.match(true));
+        due("rests(0)", x.rests(0), fresh.rests(0));
+        due("rests(1)", x.rests(1), fresh.rests(1));
+        due("judge(2, 6011)", x.judge(2, 6011), fresh.judge(2, 6011));
+        CHECKS.sameState("a fair that was not the first", x, Checks.stateOf(fresh));
+    }
+
     // ---- 6 about
 
     @Says("BAD")

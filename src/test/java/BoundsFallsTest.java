@@ -341,6 +341,8 @@ public final class BoundsFallsTest {
         nails("S10H080T093", 0, 1);
         nails("S10H072T090", 0, 1);
         nails("S10H090T010T090", 0, 1);
+        nails("S10H090T010T010T010T090", 0, 1);
+        nails("S10H090T010T010T010T080", 0, 0);
     }
 
     @Says("the fewest HUSKS (bits; of like ones the least; such as stand and have none)")
@@ -505,6 +507,7 @@ public final class BoundsFallsTest {
         judge(x, 1, 59, 0);
         judge(x, 2, 50, NONE);
         judge(x, 2, 1353, 1);
+        judge(Checks.fairOf("S10H010H110H210H310H410"), 1, 54, NONE);
         judge(x, 3, 515151, NONE);
         // Twice 4 fell husk 1 when its nail is drawn (5), not while it is in (9).
         judge(x, 4, 51111101, NONE);

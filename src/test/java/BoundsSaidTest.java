@@ -26,15 +26,22 @@ public final class BoundsSaidTest {
     private static final Checks CHECKS = new Checks();
 
     public static void main(String[] args) throws IOException {
-        Map<Integer, String> document = sectionsOf(Files.readString(DOCUMENT));
+        eachPromiseHasTests();
+        if (Files.exists(DOCUMENT)) {
+            compareWith(sectionsOf(Files.readString(DOCUMENT)));
+        } else {
+            System.out.println("BoundsSaidTest: there is no " + DOCUMENT + ", nothing is compared with it");
+        }
+        CHECKS.end("BoundsSaidTest");
+    }
+
+    private static void compareWith(Map<Integer, String> document) {
         CHECKS.due("promises told by the document", document.size() - 1, PROMISES);
         Map<Integer, boolean[]> said = whatIsSaid(document);
         document.forEach((section, text) -> {
             allSaid(REFUSAL, section, text, said.get(section));
             allSaid(BOUND, section, text, said.get(section));
         });
-        eachPromiseHasTests();
-        CHECKS.end("BoundsSaidTest");
     }
 
     /** The document's text by promise, each with one space for any white space. */
