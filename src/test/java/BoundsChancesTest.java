@@ -60,6 +60,7 @@ public final class BoundsChancesTest {
     @Says({"NONE", "how many; the first one (10 times the one and the other); NONE."})
     private static void promise26WhereNoPairIsAtRestThereIsNone() {
         CoconutShies x = Checks.fairOf("S19H040H150H220H370H480T090T050L141L420L400");
+        due("rests(1) ahead of that, there is one (1)", x.rests(1) >= 0 ? 1 : 0, 1);
         x.toss(0, 2, 0);
         x.toss(1, 3, 0);
         due("rests(0)", x.rests(0), 0);
