@@ -624,7 +624,7 @@ public final class CoconutShies {
         }
 
         boolean isUp(int husk) {
-            return bit(down, husk) == 0;
+            return (down & 1 << husk) == 0;
         }
 
         int howManyDown() {
@@ -644,10 +644,11 @@ public final class CoconutShies {
 
         /** Sets a husk up that is down; answers whether it was. */
         boolean setUp(int husk) {
-            if (isUp(husk)) {
+            int itself = 1 << husk;
+            if ((down & itself) == 0) {
                 return false;
             }
-            down ^= 1 << husk;
+            down ^= itself;
             loose[husk] = 0;
             return true;
         }
